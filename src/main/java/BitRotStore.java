@@ -586,14 +586,14 @@ public final class BitRotStore {
             return NONE;
         }
 
-        /** Marks what is needed and answers the block to clean, NONE when there can't be a cleaning. */
+        /** Marks what is needed and answers the block to clean, NONE when none is fit for it. */
         int chooseBlock() {
             markNeeded();
             int chosen = fewestMarked();
             if (chosen == NONE || markedPages(chosen) == blockPages) {
                 return NONE;
             }
-            boolean fits = headGap() == NONE ? freeBlocks() > 0 : markedPages(chosen) <= gaps(headBlock);
+            boolean fits = headGap() == NONE || markedPages(chosen) <= gaps(headBlock);
             return fits ? chosen : NONE;
         }
 

@@ -291,6 +291,10 @@ public final class PromisesTest {
         Forge.onto(z, 9, Forge.record(21, 9, 1, 1));
         due("3: mount with too little room", z.mount(), 9);
         due("3: nothing moved", z.acts(), 8);
+        z.put(10, 1);
+        due("4: the head is filled", z.put(11, 1), 0);
+        due("4: no block is free for the three needed pages of block 0", z.put(12, 1), FULL);
+        due("4: after FULL the head is as it was", z.head(), 2);
     }
 
     private void put() {
@@ -421,6 +425,15 @@ public final class PromisesTest {
         due("7: no head now", x.head(), -1);
         due("7: of the same SEQ the one on the lowest page", x.get(1), 10);
         due("15: needed", x.needed(0), 2);
+        BitRotStore z = new BitRotStore(3, 2);
+        z.put(1, 10);
+        z.put(2, 20);
+        z.put(1, 30);
+        Forge.onto(z, 1, Forge.erased());
+        Forge.onto(z, 2, Forge.record(2, 1, 30, 1));
+        z.mount();
+        due("7: an older one lies in the head", z.head(), 0);
+        due("7: a greater SEQ goes before the head", z.get(1), 30);
         BitRotStore y = new BitRotStore(3, 4);
         y.put(1, 10);
         y.put(1, 11);
@@ -575,6 +588,10 @@ public final class PromisesTest {
         due("11: one act", x.put(2, 1), 0);
         x.arm(Integer.MAX_VALUE);
         due("11: the greatest int", x.put(2, 2), 0);
+        x.arm(3);
+        x.arm(1);
+        due("11: the last arming counts alone", x.put(2, 3), 0);
+        due("11: after its one act", x.put(2, 4), CRASHED);
         armedCleaning();
     }
 
