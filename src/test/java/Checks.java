@@ -27,8 +27,13 @@ final class Checks {
         due(what, truth, true);
     }
 
-    boolean anyWrong() {
-        return wrong > 0;
+    void thrown(String what, RuntimeException thrown) {
+        made++;
+        tell(what + " threw " + thrown);
+    }
+
+    int wrong() {
+        return wrong;
     }
 
     void end() {

@@ -17,7 +17,7 @@ public final class ModelTest {
 
     public static void main(String[] args) {
         ModelTest test = new ModelTest();
-        for (int seed = 0; seed < RUNS && !test.checks.anyWrong(); seed++) {
+        for (int seed = 0; seed < RUNS && test.checks.wrong() == 0; seed++) {
             test.oneRun(seed);
         }
         test.checks.holds("the runs came to many cleanings", test.cleanings > RUNS);
@@ -34,7 +34,7 @@ public final class ModelTest {
         keys = 1 + random.nextInt(16);
         rotWeight = random.nextInt(3) * 5;
         calls = 0;
-        while (calls < CALLS && !checks.anyWrong()) {
+        while (calls < CALLS && checks.wrong() == 0) {
             step();
         }
         cleanings += m.cleanings;
