@@ -117,6 +117,13 @@ public final class ActsSentencesTest {
             s.dueWords("nothing was written", x, p, Forge.erased());
         }
         s.due("mount", x.mount(), 1);
+        Probe y = new Probe(3, 4);
+        y.arm(2);
+        y.puts(1, 2);
+        s.due("the third", y.put(3, 3), Probe.CRASHED);
+        s.due("the fourth", y.put(4, 4), Probe.CRASHED);
+        dueActs("two", y, 2);
+        s.dueWords("nothing was written", y, 2, Forge.erased());
     }
 
     private void crashedAndNotReady() {

@@ -1,7 +1,4 @@
-/**
- * The sentences under "Terms" on A CLEANING. "When there is no such block" can't come about: a cleaning is
- * wanted only when fewer than two of at least three blocks are free, and no more than one is a head with room.
- */
+/** The sentences under "Terms" on A CLEANING. */
 public final class CleaningSentencesTest {
     private final Sentences s = new Sentences("CleaningSentencesTest");
 
@@ -22,6 +19,7 @@ public final class CleaningSentencesTest {
     }
 
     private void refusals() {
+        s.test("The cleaning can't be (and nothing happens) when there is no such block", this::noBlockToChoose);
         s.test("when all P of its pages are needed", this::allNeeded, this::allButOneNeeded);
         s.test("when there is no head or all its pages are written and no block is free", this::noHeadNoFree,
             this::fullHeadNoFree);
@@ -39,8 +37,8 @@ public final class CleaningSentencesTest {
         s.test("(as read when it is sound or mended", this::copiedAsRead);
         s.test("otherwise word by word as it is", this::badIsCopiedAsItIs, this::falselyMendedIsCopiedAsItIs,
             this::blankIsCopiedAsItIs);
-        s.test("its SEQ, KEY and KIND are known there from then on)", this::knownOfABadCopy,
-            this::knownOfABadRemoval, this::knownOfAnotherRecord);
+        s.test("its SEQ, KEY and KIND are known there from then on)", this::knownOfTheKeyThatIsPut,
+            this::knownOfABadCopy, this::knownOfABadRemoval, this::knownOfAnotherRecord);
         s.test("and the chosen block is erased (none of its pages is written then).", this::chosenIsErased);
     }
 
@@ -120,6 +118,21 @@ public final class CleaningSentencesTest {
                 s.due("block " + b + " is erased", x.condition(b * 2) == Probe.BLANK, b == lowest);
             }
         }
+    }
+
+    /**
+     * No call wants a cleaning that finds no block: one is wanted only when fewer than two of at least three
+     * blocks are free, and no more than one of the others is a head with room. So what can be seen is that
+     * nothing happens where all blocks are free, or all but the head.
+     */
+    private void noBlockToChoose() {
+        Probe x = new Probe(3, 2);
+        s.due("mount of free blocks", x.mount(), 0);
+        s.due("put", x.put(1, 101), 0);
+        s.due("mount of free blocks and the head", x.mount(), 1);
+        s.due("one writing and no more", x.acts(), 1);
+        s.dueWords("the head is not erased", x, 0, Forge.record(1, 1, 101, 1));
+        s.due("head", x.head(), 0);
     }
 
     private void allNeeded() {
@@ -363,6 +376,21 @@ public final class CleaningSentencesTest {
         dueCopiedAsItIs(Forge.erased(), Probe.BLANK);
         dueCopiedAsItIs(Forge.turned(Forge.erased(), 7), Probe.BLANK);
         dueCopiedAsItIs(Forge.turned(Forge.erased(), 7, 170), Probe.BLANK);
+    }
+
+    /** The copy and the record have the same key: the copy keeps its SEQ, so it is the older. */
+    private void knownOfTheKeyThatIsPut() {
+        Probe x = beforeCleaning();
+        s.due("put", x.put(0, 7), 0);
+        s.dueWords("the copy", x, 4, Forge.record(1, 0, 100, 1));
+        s.dueWords("the record", x, 5, Forge.record(5, 0, 7, 1));
+        s.due("get", x.get(0), 7);
+        s.due("the copy is not needed", x.needed(2), 1);
+        Probe y = beforeCleaning();
+        s.due("remove", y.remove(0), 0);
+        s.dueWords("the copy", y, 4, Forge.record(1, 0, 100, 1));
+        s.due("has", y.has(0), false);
+        s.due("the removal is needed", y.needed(2), 1);
     }
 
     private void knownOfABadCopy() {

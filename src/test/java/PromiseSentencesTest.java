@@ -19,6 +19,9 @@ public final class PromiseSentencesTest {
 
     private void makingAnObject() {
         s.test("An object is used for at most 512 calls after it has been made", this::lastCall);
+        s.test("`CRASHED = -2`: The store is not ready.", this::constantCrashed);
+        s.test("`FULL = -1`: There is no room.", this::constantFull);
+        s.test("`BAD = -3`: A number is out of its range.", this::constantBad);
         s.test("B is blocks, but 3 when that is less and 5 when it is more", this::numberOfBlocks);
         s.test("P is pages, but 2 when that is less and 4 when it is more.", this::numberOfPages);
         s.test("All is as after init().", this::newIsAsAfterInit);
@@ -90,6 +93,26 @@ public final class PromiseSentencesTest {
             s.due("put " + i, x.put(1, i), 0);
         }
         s.due("the 512th call", x.get(1), 510);
+    }
+
+    private void constantCrashed() {
+        s.due("CRASHED", BitRotStore.CRASHED, -2);
+        for (Probe x : notReady()) {
+            s.due("put", x.put(1, 1), BitRotStore.CRASHED);
+        }
+    }
+
+    private void constantFull() {
+        s.due("FULL", BitRotStore.FULL, -1);
+        s.due("put", Probe.with(3, 2, 0, 1, 2, 3).put(4, 4), BitRotStore.FULL);
+    }
+
+    private void constantBad() {
+        s.due("BAD", BitRotStore.BAD, -3);
+        Probe x = new Probe(3, 2);
+        s.due("put", x.put(16, 1), BitRotStore.BAD);
+        s.due("condition", x.condition(6), BitRotStore.BAD);
+        s.due("needed", x.needed(3), BitRotStore.BAD);
     }
 
     private void numberOfBlocks() {
@@ -556,6 +579,9 @@ public final class PromiseSentencesTest {
         Probe z = Probe.with(3, 4, 1, 1);
         z.spoil(1);
         s.due("an older page does not stand in for a bad one", z.get(1), 0);
+        z.onto(1, Forge.record(2, 1, 101, 2));
+        z.mount();
+        s.due("removed, on a page that has a VALUE", z.get(1), 0);
     }
 
     private void sizes() {

@@ -334,7 +334,9 @@ public final class StoreSentencesTest {
         s.due("none", x.head(), -1);
         x.puts(1);
         s.due("the first block", x.head(), 0);
-        x.puts(1, 1, 1, 1);
+        x.puts(1);
+        s.due("all its pages are written", x.head(), 0);
+        x.puts(1, 1, 1);
         s.due("the last block", x.head(), 2);
         x.puts(1);
         x.mount();
