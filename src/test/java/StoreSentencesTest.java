@@ -21,7 +21,8 @@ public final class StoreSentencesTest {
             this::writtenButBlank, this::recordNotWritten);
         s.test("and then the SEQ, KEY and KIND that were written there", this::writtenThere);
         s.test("or read at mounting", this::readAtMounting);
-        s.test("(whatever became of the bits since).", this::scrubbed);
+        s.test("(whatever became of the bits since).", this::scrubbedAsAnotherRecord, this::scrubbedAsErased,
+            this::scrubbedButNotWritten, this::scrubbedAndMounted);
     }
 
     private void latest() {
@@ -168,29 +169,72 @@ public final class StoreSentencesTest {
         s.due("get", y.get(1), 5);
     }
 
-    /** Scrub writes the bits of a page; what is known of it stays. */
-    private void scrubbed() {
+    /** Scrub writes the bits of a page; what is known of it stays, here and in the next three. */
+    private void scrubbedAsAnotherRecord() {
         Probe x = Probe.with(3, 3, 1);
         x.onto(0, Forge.turned(Forge.record(9, 2, 77, 2), 5));
         s.due("scrub of a page that reads as another record", x.scrub(), 1);
         s.dueWords("it is written as read", x, 0, Forge.record(9, 2, 77, 2));
         s.due("KEY and KIND known as before", x.has(1), true);
         s.due("not as read", x.has(2), false);
+        s.due("size", x.size(), 1);
+        s.due("needed", x.needed(0), 1);
         x.put(1, 50);
         s.due("NEXT as before", x.word(1, 0), 2);
         s.due("SEQ known as before", x.get(1), 50);
-        Probe y = Probe.with(3, 3, 1);
-        y.onto(0, Forge.turned(Forge.erased(), 9));
-        s.due("scrub of a written page that reads as blank", y.scrub(), 1);
-        s.due("it is known as before", y.has(1), true);
+        Probe y = Probe.with(3, 2, 1, 2, 2, 3);
+        y.onto(0, Forge.turned(Forge.record(9, 5, 77, 2), 5));
+        y.scrub();
+        y.puts(4);
+        s.dueWords("a cleaning copies what scrub wrote", y, 4, Forge.record(9, 5, 77, 2));
+        s.due("of the key that was known before", y.has(1), true);
+        s.due("not of the one that scrub wrote", y.has(5), false);
+        s.due("with its VALUE as read", y.get(1), 77);
+    }
+
+    private void scrubbedAsErased() {
+        Probe x = Probe.with(3, 3, 1);
+        x.onto(0, Forge.turned(Forge.erased(), 9));
+        s.due("scrub of a written page that reads as blank", x.scrub(), 1);
+        s.dueWords("it is written as erased", x, 0, Forge.erased());
+        s.due("it is known as before", x.has(1), true);
+        s.due("needed", x.needed(0), 1);
+        x.puts(2);
+        s.dueWords("and written as before", x, 1, Forge.record(2, 2, 102, 1));
+    }
+
+    private void scrubbedButNotWritten() {
+        Probe x = new Probe(3, 3);
+        x.onto(0, Forge.turned(Forge.record(9, 2, 77, 1), 5));
+        s.due("scrub of a page that was not written", x.scrub(), 1);
+        s.due("it is not known", x.has(2), false);
+        s.due("nor needed", x.needed(0), 0);
+        x.puts(3);
+        s.dueWords("nor written", x, 0, Forge.record(1, 3, 103, 1));
+        Probe y = Probe.with(3, 2, 1);
+        for (int p = 1; p < y.pages(); p++) {
+            y.turn(p, p, 177);
+        }
+        s.due("scrub of blank pages that were not written", y.scrub(), 5);
+        s.due("head", y.head(), 0);
         y.puts(2);
-        s.dueWords("and written as before", y, 1, Forge.record(2, 2, 102, 1));
-        Probe z = new Probe(3, 3);
-        z.onto(0, Forge.turned(Forge.record(9, 2, 77, 1), 5));
-        s.due("scrub of a page that was not written", z.scrub(), 1);
-        s.due("it is not known", z.has(2), false);
-        z.puts(3);
-        s.dueWords("nor written", z, 0, Forge.record(1, 3, 103, 1));
+        s.dueWords("the one in the head is the next", y, 1, Forge.record(2, 2, 102, 1));
+        y.puts(3);
+        s.due("the blocks of the others are free", y.head(), 1);
+        s.due("no cleaning: five pages scrubbed, three written", y.acts(), 8);
+    }
+
+    private void scrubbedAndMounted() {
+        Probe x = Probe.with(3, 3, 1);
+        x.onto(0, Forge.turned(Forge.record(9, 2, 77, 1), 5));
+        x.onto(3, Forge.turned(Forge.record(4, 6, 66, 1), 5));
+        s.due("scrub", x.scrub(), 2);
+        s.due("only mounting finds what scrub wrote", x.mount(), 2);
+        s.due("the key that was known", x.has(1), false);
+        s.due("a key that scrub wrote", x.get(2), 77);
+        s.due("where nothing was written", x.get(6), 66);
+        x.puts(3);
+        s.due("NEXT by what scrub wrote", x.word(1, 0), 10);
     }
 
     /** Mounted with two records of key 1 in the head: VALUE 101 on page 0, VALUE 102 on page 1. */
